@@ -15,6 +15,7 @@ final class StepTest {
         loadUsesItsAddressBeforeItsRegister();
         swapThatFindsR0();
         swapThatDoesNot();
+        swapLooksAtMemoryNotStorage();
         swapAndFenceWaitForAnEmptyBuffer();
         entriesWaitForRoom();
         branches();
@@ -128,6 +129,19 @@ final class StepTest {
         check.due("memory(4)", x.memory(4), 0);
         check.due("register(0, 0)", x.register(0, 0), 8);
         check.due("dirty(1)", x.dirty(1), true);
+    }
+
+    private static void swapLooksAtMemoryNotStorage() {
+        StoreBufferCores x = Codes.with(2, 4,
+            Codes.SET, 2, 0, 8, Codes.STORE, 2, 3, 4, Codes.SWAP, 1, 3, 4, Codes.SWAP, 1, 3, 4);
+        x.run(0, 2);
+        x.settle(0);
+        check.due("storage(4)", x.storage(4), 0);
+        check.due("step(0)", x.step(0), DONE);
+        check.due("memory(4)", x.memory(4), 8);
+        check.due("register(0, 0)", x.register(0, 0), 8);
+        check.due("step(0)", x.step(0), DONE);
+        check.due("memory(4)", x.memory(4), 0);
     }
 
     private static void swapAndFenceWaitForAnEmptyBuffer() {

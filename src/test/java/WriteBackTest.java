@@ -7,11 +7,12 @@ final class WriteBackTest {
         wrongLines();
         sameValueDirties();
         crashLosesWhatWasNotWrittenBack();
+        crashTakesEveryLineBack();
         crashKeepsPrograms();
         check.end();
     }
 
-    /** An object in which core 0 has stored a + 1 into each word a from first to first + 3. */
+    /** An object in which core 0 has put a + 1 into each word a of a line of memory. */
     private static StoreBufferCores storedLine(int line) {
         StoreBufferCores x = new StoreBufferCores(2, 4);
         for (int i = 0; i < 4; i++) {
@@ -92,6 +93,17 @@ final class WriteBackTest {
         check.due("register(1, 0)", x.register(1, 0), 0);
         check.due("place(0)", x.place(0), 0);
         check.due("place(1)", x.place(1), 1);
+    }
+
+    private static void crashTakesEveryLineBack() {
+        for (int line = 0; line < 8; line++) {
+            StoreBufferCores x = storedLine(line);
+            x.crash();
+            check.due("dirty(" + line + ") after a crash", x.dirty(line), false);
+            for (int a = 0; a < 32; a++) {
+                check.due("memory(" + a + ") after a crash", x.memory(a), 0);
+            }
+        }
     }
 
     private static void crashKeepsPrograms() {
