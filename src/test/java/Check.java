@@ -1,22 +1,26 @@
 /** Compares answers with those that are due, prints each wrong one, and ends the test by them. */
 final class Check {
     private int wrong;
+    private String sentence = "";
+
+    /** The sentence of the document to which the answers from here on belong. */
+    void about(String sentence) {
+        this.sentence = sentence + ": ";
+    }
 
     void due(String call, int got, int want) {
-        if (got != want) {
-            wrong(call, String.valueOf(got), String.valueOf(want));
-        }
+        due(call, Integer.valueOf(got), Integer.valueOf(want));
     }
 
     void due(String call, boolean got, boolean want) {
-        if (got != want) {
-            wrong(call, String.valueOf(got), String.valueOf(want));
-        }
+        due(call, Boolean.valueOf(got), Boolean.valueOf(want));
     }
 
-    private void wrong(String call, String got, String want) {
-        wrong++;
-        System.out.println(call + " answered " + got + ", due is " + want);
+    void due(String call, Object got, Object want) {
+        if (!got.equals(want)) {
+            wrong++;
+            System.out.println(sentence + call + " answered " + got + ", due is " + want);
+        }
     }
 
     boolean allDue() {

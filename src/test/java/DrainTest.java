@@ -1,45 +1,15 @@
 /** Promises 6 and 7: drain and settle, and which entry lets which pass. */
 final class DrainTest {
     private static final Check check = new Check();
-    private static final int[] KIND_CODES = {Codes.STORE, Codes.FLUSH, Codes.LAZY, Codes.ORDER};
-
-    // Rows are the older entry, columns the later one, both in the order STORE, FLUSH, LAZY, ORDER.
-    private static final String[] SAME_LINE = {"....", "....", "p.p.", "...."};
-    private static final String[] OTHER_LINE = {"..p.", "..p.", "ppp.", "...."};
 
     public static void main(String[] args) {
-        everyPairOfEntries();
         everyOlderEntryMustLetPass();
         drainedStore();
         drainedFlushes();
         laterEntriesMoveUp();
         storeOverLazyFlushIsWrittenBackLater();
-        wrongDrains();
         settles();
         check.end();
-    }
-
-    private static void everyPairOfEntries() {
-        for (int older = 0; older < 4; older++) {
-            for (int later = 0; later < 4; later++) {
-                pair(older, later, 10, SAME_LINE[older].charAt(later) == 'p');
-                pair(older, later, 9, SAME_LINE[older].charAt(later) == 'p');
-                pair(older, later, 11, SAME_LINE[older].charAt(later) == 'p');
-                pair(older, later, 12, OTHER_LINE[older].charAt(later) == 'p');
-                pair(older, later, 2, OTHER_LINE[older].charAt(later) == 'p');
-            }
-        }
-    }
-
-    private static void pair(int older, int later, int word, boolean passes) {
-        StoreBufferCores x = Codes.with(2, 8,
-            KIND_CODES[older], 0, 0, 10, KIND_CODES[later], 0, 0, word);
-        x.run(0, 2);
-        String call = "drain(0, 1) of kind " + later + " at " + word + " behind " + older;
-        check.due(call, x.drain(0, 1), passes);
-        check.due("pending(0)", x.pending(0), passes ? 1 : 2);
-        check.due("entry(0, 0, 0)", x.entry(0, 0, 0), older);
-        check.due("drain(0, 0)", x.drain(0, 0), true);
     }
 
     private static void everyOlderEntryMustLetPass() {
@@ -115,21 +85,6 @@ final class DrainTest {
         check.due("drain(0, 0)", x.drain(0, 0), true);
         check.due("storage(9)", x.storage(9), 5);
         check.due("dirty(2)", x.dirty(2), false);
-    }
-
-    private static void wrongDrains() {
-        StoreBufferCores x = Codes.with(3, 8, Codes.LAZY, 0, 0, 0, Codes.STORE, 0, 0, 0);
-        check.due("drain(0, 0) of an empty buffer", x.drain(0, 0), false);
-        x.run(0, 2);
-        for (int k : Codes.outside(2)) {
-            check.due("drain(0, " + k + ")", x.drain(0, k), false);
-        }
-        for (int core : Codes.outside(3)) {
-            check.due("drain(" + core + ", 0)", x.drain(core, 0), false);
-        }
-        check.due("drain(1, 0)", x.drain(1, 0), false);
-        check.due("pending(0)", x.pending(0), 2);
-        check.due("dirty(0)", x.dirty(0), false);
     }
 
     private static void settles() {

@@ -9,7 +9,6 @@ final class LookTest {
         entries();
         seesNewestOwnStore();
         wordsOfMemoryAndStorage();
-        lookingChangesNothing();
         check.end();
     }
 
@@ -127,22 +126,6 @@ final class LookTest {
         for (int a : Codes.outside(32)) {
             check.due("memory(" + a + ")", x.memory(a), 0);
             check.due("storage(" + a + ")", x.storage(a), 0);
-        }
-    }
-
-    private static void lookingChangesNothing() {
-        StoreBufferCores x = Codes.with(2, 4, Codes.SET, 1, 0, 5, Codes.STORE, 1, 0, 7);
-        x.run(0, 2);
-        for (int time = 0; time < 2; time++) {
-            check.due("pending(0)", x.pending(0), 1);
-            check.due("entry(0, 0, 2)", x.entry(0, 0, 2), 5);
-            check.due("sees(0, 7)", x.sees(0, 7), 5);
-            check.due("memory(7)", x.memory(7), 0);
-            check.due("storage(7)", x.storage(7), 0);
-            check.due("place(0)", x.place(0), 2);
-            check.due("register(0, 1)", x.register(0, 1), 5);
-            check.due("dirty(1)", x.dirty(1), false);
-            check.due("cores()", x.cores(), 2);
         }
     }
 }

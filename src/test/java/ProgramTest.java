@@ -5,12 +5,8 @@ final class ProgramTest {
     public static void main(String[] args) {
         everyPlaceAndCoreTakesAnInstruction();
         everyCodeIsTaken();
-        anyNumberButForBranch();
-        wrongNumbersAreRefused();
-        refusedPutChangesNothing();
         putReplacesWhileRunning();
         recoveryEntries();
-        wrongRecoveryEntries();
         check.end();
     }
 
@@ -35,54 +31,6 @@ final class ProgramTest {
         for (int code = 0; code <= 10; code++) {
             check.due("put of code " + code, x.put(1, code, code, 3, 3, 23), true);
         }
-    }
-
-    private static void anyNumberButForBranch() {
-        for (int n : new int[] {24, -1, Integer.MAX_VALUE, Integer.MIN_VALUE}) {
-            StoreBufferCores x = new StoreBufferCores(2, 4);
-            for (int code = 0; code <= 9; code++) {
-                check.due("put of code " + code + " with " + n, x.put(0, code, code, 0, 0, n), true);
-            }
-            check.due("put of BRANCH with " + n, x.put(0, 10, Codes.BRANCH, 0, 0, n), false);
-        }
-        StoreBufferCores x = new StoreBufferCores(2, 4);
-        check.due("put of BRANCH with 0", x.put(0, 0, Codes.BRANCH, 0, 0, 0), true);
-        check.due("put of BRANCH with 23", x.put(0, 0, Codes.BRANCH, 0, 0, 23), true);
-    }
-
-    private static void wrongNumbersAreRefused() {
-        StoreBufferCores x = new StoreBufferCores(3, 4);
-        for (int core : Codes.outside(3)) {
-            check.due("put(" + core + ", ..)", x.put(core, 0, Codes.SET, 0, 0, 1), false);
-        }
-        for (int i : Codes.outside(24)) {
-            check.due("put(0, " + i + ", ..)", x.put(0, i, Codes.SET, 0, 0, 1), false);
-        }
-        for (int code : Codes.outside(11)) {
-            check.due("put(0, 0, " + code + ", ..)", x.put(0, 0, code, 0, 0, 1), false);
-        }
-        for (int k : Codes.outside(4)) {
-            for (int code = 0; code <= 10; code++) {
-                check.due("put with x " + k, x.put(0, 0, code, k, 0, 1), false);
-                check.due("put with y " + k, x.put(0, 0, code, 0, k, 1), false);
-            }
-        }
-        for (int n : Codes.outside(24)) {
-            check.due("BRANCH to " + n, x.put(0, 0, Codes.BRANCH, 0, 0, n), false);
-        }
-        check.due("step(0)", x.step(0), StoreBufferCores.HALTED);
-    }
-
-    private static void refusedPutChangesNothing() {
-        StoreBufferCores x = Codes.with(2, 4, Codes.SET, 2, 0, 9);
-        check.due("put with a wrong code", x.put(0, 0, 11, 1, 0, 7), false);
-        check.due("put with a wrong x", x.put(0, 0, Codes.SET, 4, 0, 7), false);
-        check.due("put with a wrong y", x.put(0, 0, Codes.SET, 1, 4, 7), false);
-        check.due("put with a wrong n", x.put(0, 0, Codes.BRANCH, 1, 0, 24), false);
-        check.due("step(0)", x.step(0), StoreBufferCores.DONE);
-        check.due("register(0, 2)", x.register(0, 2), 9);
-        check.due("register(0, 1)", x.register(0, 1), 0);
-        check.due("place(0)", x.place(0), 1);
     }
 
     private static void putReplacesWhileRunning() {
@@ -112,19 +60,5 @@ final class ProgramTest {
         x.crash();
         check.due("place(1)", x.place(1), 2);
         check.due("place(3)", x.place(3), 5);
-    }
-
-    private static void wrongRecoveryEntries() {
-        StoreBufferCores x = new StoreBufferCores(2, 4);
-        x.recovery(1, 7);
-        for (int i : Codes.outside(24)) {
-            check.due("recovery(1, " + i + ")", x.recovery(1, i), false);
-        }
-        for (int core : Codes.outside(2)) {
-            check.due("recovery(" + core + ", 3)", x.recovery(core, 3), false);
-        }
-        x.crash();
-        check.due("place(0)", x.place(0), 0);
-        check.due("place(1)", x.place(1), 7);
     }
 }

@@ -2,26 +2,19 @@
 final class StepTest {
     private static final Check check = new Check();
     private static final int DONE = StoreBufferCores.DONE;
-    private static final int WAITS = StoreBufferCores.WAITS;
     private static final int HALTED = StoreBufferCores.HALTED;
-    private static final int NONE = StoreBufferCores.NONE;
 
     public static void main(String[] args) {
         haltChangesNothing();
         endOfProgramIsHalted();
-        addWraps();
-        addressWrapsAndIsMasked();
         loadSeesItsOwnNewestStore();
         loadUsesItsAddressBeforeItsRegister();
         swapThatFindsR0();
         swapThatDoesNot();
         swapLooksAtMemoryNotStorage();
-        swapAndFenceWaitForAnEmptyBuffer();
-        entriesWaitForRoom();
         branches();
         storeTakesTheValueOfItsMoment();
         runs();
-        wrongArguments();
         check.end();
     }
 
@@ -46,30 +39,6 @@ final class StepTest {
         check.due("place(0)", x.place(0), 24);
         x.crash();
         check.due("place(0)", x.place(0), 23);
-    }
-
-    private static void addWraps() {
-        StoreBufferCores x = Codes.with(2, 4,
-            Codes.SET, 1, 0, Integer.MAX_VALUE, Codes.SET, 2, 0, 1,
-            Codes.ADD, 1, 2, 77, Codes.ADD, 1, 1, 0, Codes.ADD, 2, 2, 0);
-        x.run(0, 3);
-        check.due("register(0, 1)", x.register(0, 1), Integer.MIN_VALUE);
-        check.due("register(0, 2)", x.register(0, 2), 1);
-        x.run(0, 2);
-        check.due("register(0, 1)", x.register(0, 1), 0);
-        check.due("register(0, 2)", x.register(0, 2), 2);
-    }
-
-    private static void addressWrapsAndIsMasked() {
-        StoreBufferCores x = Codes.with(2, 8,
-            Codes.SET, 3, 0, Integer.MAX_VALUE, Codes.STORE, 3, 3, 1, Codes.STORE, 3, 3, 2,
-            Codes.STORE, 3, 0, -1, Codes.STORE, 3, 0, 64 + 7, Codes.FLUSH, 0, 0, -1,
-            Codes.LAZY, 0, 3, 0, Codes.FLUSH, 0, 3, 14);
-        check.due("run(0, 20)", x.run(0, 20), 8);
-        int[] targets = {0, 1, 31, 7, 7, 7, 3};
-        for (int k = 0; k < targets.length; k++) {
-            check.due("entry(0, " + k + ", 1)", x.entry(0, k, 1), targets[k]);
-        }
     }
 
     private static void loadSeesItsOwnNewestStore() {
@@ -144,41 +113,6 @@ final class StepTest {
         check.due("memory(4)", x.memory(4), 0);
     }
 
-    private static void swapAndFenceWaitForAnEmptyBuffer() {
-        for (int code : new int[] {Codes.SWAP, Codes.FENCE}) {
-            for (int before : new int[] {Codes.STORE, Codes.ORDER, Codes.FLUSH, Codes.LAZY}) {
-                StoreBufferCores x = Codes.with(2, 4,
-                    Codes.SET, 1, 0, 3, before, 1, 0, 2, code, 1, 0, 17);
-                Codes.load(x, 1, code, 0, 0, 0);
-                x.run(0, 2);
-                check.due("step(0) of " + code, x.step(0), WAITS);
-                check.due("place(0)", x.place(0), 2);
-                check.due("memory(17)", x.memory(17), 0);
-                check.due("dirty(4)", x.dirty(4), false);
-                check.due("step(1) of " + code, x.step(1), DONE);
-                x.drain(0, 0);
-                check.due("step(0) of " + code, x.step(0), DONE);
-                check.due("place(0)", x.place(0), 3);
-                check.due("memory(17)", x.memory(17), code == Codes.SWAP ? 3 : 0);
-            }
-        }
-    }
-
-    private static void entriesWaitForRoom() {
-        for (int code : new int[] {Codes.STORE, Codes.ORDER, Codes.FLUSH, Codes.LAZY}) {
-            StoreBufferCores x = Codes.with(2, 2,
-                Codes.ORDER, 0, 0, 0, Codes.ORDER, 0, 0, 0, code, 0, 0, 9, Codes.LOAD, 0, 0, 9);
-            check.due("run(0, 20)", x.run(0, 20), 2);
-            check.due("step(0) of " + code, x.step(0), WAITS);
-            check.due("pending(0)", x.pending(0), 2);
-            check.due("place(0)", x.place(0), 2);
-            x.drain(0, 0);
-            check.due("step(0) of " + code, x.step(0), DONE);
-            check.due("pending(0)", x.pending(0), 2);
-            check.due("step(0) of LOAD", x.step(0), DONE);
-        }
-    }
-
     private static void branches() {
         StoreBufferCores x = Codes.with(2, 4,
             Codes.BRANCH, 1, 0, 5, Codes.SET, 1, 0, -1, Codes.BRANCH, 1, 0, 23);
@@ -216,20 +150,6 @@ final class StepTest {
         x.settle(0);
         check.due("run(0, 20)", x.run(0, 20), 1);
         check.due("place(0)", x.place(0), 4);
-        check.due("place(1)", x.place(1), 0);
-    }
-
-    private static void wrongArguments() {
-        StoreBufferCores x = Codes.with(2, 4, Codes.SET, 1, 0, 1, Codes.SET, 1, 0, 2);
-        for (int core : Codes.outside(2)) {
-            check.due("step(" + core + ")", x.step(core), NONE);
-            check.due("run(" + core + ", 1)", x.run(core, 1), NONE);
-            check.due("run(" + core + ", 0)", x.run(core, 0), NONE);
-        }
-        for (int n : Codes.outside(21)) {
-            check.due("run(0, " + n + ")", x.run(0, n), NONE);
-        }
-        check.due("place(0)", x.place(0), 0);
         check.due("place(1)", x.place(1), 0);
     }
 }

@@ -4,8 +4,6 @@ final class WriteBackTest {
 
     public static void main(String[] args) {
         everyLineIsEvicted();
-        wrongLines();
-        sameValueDirties();
         crashLosesWhatWasNotWrittenBack();
         crashTakesEveryLineBack();
         crashKeepsPrograms();
@@ -43,30 +41,6 @@ final class WriteBackTest {
             check.due("dirty(" + line + ")", x.dirty(line), false);
             check.due("evict(" + line + ") again", x.evict(line), true);
         }
-    }
-
-    private static void wrongLines() {
-        StoreBufferCores x = storedLine(7);
-        for (int line : Codes.outside(8)) {
-            check.due("evict(" + line + ")", x.evict(line), false);
-            check.due("dirty(" + line + ")", x.dirty(line), false);
-        }
-        check.due("storage(28)", x.storage(28), 0);
-        check.due("dirty(7)", x.dirty(7), true);
-    }
-
-    private static void sameValueDirties() {
-        StoreBufferCores x = Codes.with(2, 4, Codes.STORE, 0, 0, 20, Codes.SWAP, 0, 0, 24);
-        x.step(0);
-        check.due("dirty(5)", x.dirty(5), false);
-        x.drain(0, 0);
-        check.due("dirty(5)", x.dirty(5), true);
-        check.due("dirty(6)", x.dirty(6), false);
-        x.step(0);
-        check.due("dirty(6)", x.dirty(6), true);
-        x.crash();
-        check.due("dirty(5)", x.dirty(5), false);
-        check.due("dirty(6)", x.dirty(6), false);
     }
 
     private static void crashLosesWhatWasNotWrittenBack() {
