@@ -19,6 +19,7 @@ final class BoundsOfDrainTest {
         everyOlderEntryMustLetPass();
         laterEntriesMoveUp();
         drainLeavesOtherBuffersAlone();
+        drainMindsItsOwnBufferAlone();
         settleOfNoCore();
         settleOfAnEmptyBuffer();
         settleOfEveryCount();
@@ -189,6 +190,19 @@ final class BoundsOfDrainTest {
         }
         check.due("entry(0, 0, 0)", x.entry(0, 0, 0), StoreBufferCores.LAZY);
         check.due("entry(3, 0, 0)", x.entry(3, 0, 0), StoreBufferCores.STORE);
+    }
+
+    private static void drainMindsItsOwnBufferAlone() {
+        check.about("Promise 6, another core's entries neither hold back nor let pass");
+        for (int held = 0; held < 2; held++) {
+            StoreBufferCores x = new StoreBufferCores(2, 4);
+            Codes.load(x, held, Codes.ORDER, 0, 0, 0, Codes.STORE, 0, 0, 8);
+            Codes.load(x, 1 - held, Codes.LAZY, 0, 0, 0, Codes.STORE, 0, 0, 8);
+            x.run(0, 2);
+            x.run(1, 2);
+            check.due("drain(" + held + ", 1) behind ORDER", x.drain(held, 1), false);
+            check.due("drain(" + (1 - held) + ", 1) behind LAZY", x.drain(1 - held, 1), true);
+        }
     }
 
     private static void settleOfNoCore() {

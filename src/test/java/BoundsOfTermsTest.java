@@ -58,6 +58,7 @@ final class BoundsOfTermsTest {
             x.settle(1);
             x.run(0, 2);
             check.due("register(0, 1) of " + row[0] + " + " + row[1], x.register(0, 1), 7);
+            check.due("pending(0)", x.pending(0), 0);
         }
     }
 

@@ -15,6 +15,7 @@ final class BoundsOfWriteBackTest {
         storeThatIsPendingDoesNotDirty();
         dirtyAgainAfterWritingBack();
         crashEmptiesAndClears();
+        crashTakesEveryWordBack();
         crashKeepsWhatStays();
         crashOfANewObject();
         crashTwice();
@@ -186,6 +187,23 @@ final class BoundsOfWriteBackTest {
             }
             for (int a = 0; a < 32; a++) {
                 int due = a % 8 == 0 && a / 8 < cores ? 50 + a / 8 : 0;
+                check.due("memory(" + a + ")", x.memory(a), due);
+                check.due("storage(" + a + ")", x.storage(a), due);
+                check.due("dirty(" + a / 4 + ")", x.dirty(a / 4), false);
+            }
+        }
+    }
+
+    private static void crashTakesEveryWordBack() {
+        check.about("Promise 9, memory becomes what storage is; no line is dirty");
+        for (int odd = 0; odd < 2; odd++) {
+            StoreBufferCores x = filled(2);
+            for (int line = odd; line < 8; line += 2) {
+                x.evict(line);
+            }
+            x.crash();
+            for (int a = 0; a < 32; a++) {
+                int due = a / 4 % 2 == odd ? 100 + a : 0;
                 check.due("memory(" + a + ")", x.memory(a), due);
                 check.due("storage(" + a + ")", x.storage(a), due);
                 check.due("dirty(" + a / 4 + ")", x.dirty(a / 4), false);
