@@ -27,7 +27,7 @@ final class BoundsOfWriteBackTest {
         for (int line : Codes.outside(8)) {
             Twins.unchanged(check, "evict(" + line + ")", () -> LivedIn.with(2),
                 x -> x.evict(line), false);
-            Twins.unchanged(check, "evict(" + line + ")", () -> filled(2),
+            Twins.unchanged(check, "evict(" + line + ")", () -> LivedIn.allDirty(2),
                 x -> x.evict(line), false);
         }
     }
@@ -35,27 +35,12 @@ final class BoundsOfWriteBackTest {
     private static void dirtyOfNoLine() {
         check.about("Promise 17, false when there is none");
         for (int line : Codes.outside(8)) {
-            Twins.unchanged(check, "dirty(" + line + ")", () -> filled(2),
+            Twins.unchanged(check, "dirty(" + line + ")", () -> LivedIn.allDirty(2),
                 x -> x.dirty(line), false);
         }
     }
 
-    /** An object in which core 1 has put 100 + a into each word a of memory, and all are dirty. */
-    private static StoreBufferCores filled(int cores) {
-        StoreBufferCores x = new StoreBufferCores(cores, 8);
-        for (int first = 0; first < 32; first += 8) {
-            for (int i = 0; i < 8; i++) {
-                x.put(1, 2 * i, Codes.SET, 1, 0, 100 + first + i);
-                x.put(1, 2 * i + 1, Codes.STORE, 1, 0, first + i);
-            }
-            x.put(1, 16, Codes.BRANCH, 1, 0, 0);
-            x.run(1, 17);
-            x.settle(1);
-        }
-        return x;
-    }
-
-    /** Core 0 comes back to its place 0 each time, as core 1 does above. */
+    /** Core 0 comes back to its place 0 each time, as core 1 does in LivedIn.allDirty. */
     private static void writeBack(StoreBufferCores x, int way, int line) {
         if (way == EVICT) {
             check.due("evict(" + line + ")", x.evict(line), true);
@@ -72,7 +57,7 @@ final class BoundsOfWriteBackTest {
         check.about("WRITING BACK a line makes its four words of storage what they are in memory");
         for (int way : WAYS) {
             for (int line = 0; line < 8; line++) {
-                StoreBufferCores x = filled(2);
+                StoreBufferCores x = LivedIn.allDirty(2);
                 writeBack(x, way, line);
                 for (int a = 0; a < 32; a++) {
                     check.due("memory(" + a + ")", x.memory(a), 100 + a);
@@ -94,7 +79,7 @@ final class BoundsOfWriteBackTest {
     }
 
     private static StoreBufferCores writtenBack(int line) {
-        StoreBufferCores x = filled(2);
+        StoreBufferCores x = LivedIn.allDirty(2);
         x.evict(line);
         return x;
     }
@@ -160,7 +145,7 @@ final class BoundsOfWriteBackTest {
     private static void dirtyAgainAfterWritingBack() {
         check.about("DIRTY since the line was last written back");
         for (int way : WAYS) {
-            StoreBufferCores x = filled(2);
+            StoreBufferCores x = LivedIn.allDirty(2);
             for (int time = 0; time < 3; time++) {
                 writeBack(x, way, 7);
                 check.due("dirty(7) once written back", x.dirty(7), false);
@@ -197,7 +182,7 @@ final class BoundsOfWriteBackTest {
     private static void crashTakesEveryWordBack() {
         check.about("Promise 9, memory becomes what storage is; no line is dirty");
         for (int odd = 0; odd < 2; odd++) {
-            StoreBufferCores x = filled(2);
+            StoreBufferCores x = LivedIn.allDirty(2);
             for (int line = odd; line < 8; line += 2) {
                 x.evict(line);
             }

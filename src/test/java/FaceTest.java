@@ -14,6 +14,7 @@ import java.util.regex.Pattern;
 /** The public face, the constants, and those rules of LANGUAGE.md that can be read off the file. */
 final class FaceTest {
     private static final Check check = new Check();
+    private static final Path FILE = Path.of("src/main/java/StoreBufferCores.java");
 
     private static final Set<String> METHODS = Set.of(
         "boolean put(int, int, int, int, int, int)", "boolean recovery(int, int)", "int step(int)",
@@ -27,7 +28,9 @@ final class FaceTest {
     public static void main(String[] args) throws IOException {
         constants();
         publicMembers();
+        faceAsTheDocumentSaysIt();
         classesInside();
+        limitsOfClasses(StoreBufferCores.class);
         forbiddenWords();
         check.end();
     }
@@ -81,6 +84,23 @@ final class FaceTest {
             + "(" + types.substring(1, types.length() - 1) + ")";
     }
 
+    private static void faceAsTheDocumentSaysIt() throws IOException {
+        String document = Files.readString(Sentences.document());
+        int from = document.indexOf("## The public face");
+        String face = document.substring(from, document.indexOf("## Terms", from));
+        check.due("what is public", publicLines(Files.readString(FILE)), publicLines(face));
+    }
+
+    private static Set<String> publicLines(String text) {
+        Set<String> lines = new TreeSet<>();
+        for (String line : text.split("\n")) {
+            if (line.strip().startsWith("public ")) {
+                lines.add(line.strip().replaceAll("( \\{|;)$", ""));
+            }
+        }
+        return lines;
+    }
+
     private static void classesInside() {
         Set<String> names = new TreeSet<>();
         for (String method : METHODS) {
@@ -99,8 +119,27 @@ final class FaceTest {
         }
     }
 
+    /** Rules 5 and 11: no static field that changes, and not too many of anything. */
+    private static void limitsOfClasses(Class<?> type) {
+        check.due("classes inside " + type, type.getDeclaredClasses().length <= 11, true);
+        int fields = 0;
+        for (Field field : type.getDeclaredFields()) {
+            boolean isStatic = Modifier.isStatic(field.getModifiers());
+            fields += isStatic ? 0 : 1;
+            check.due(field + " is final if it is static",
+                !isStatic || Modifier.isFinal(field.getModifiers()), true);
+        }
+        check.due("fields of " + type, fields <= 20, true);
+        for (Method method : type.getDeclaredMethods()) {
+            check.due("parameters of " + method, method.getParameterCount() <= 7, true);
+        }
+        for (Class<?> inside : type.getDeclaredClasses()) {
+            limitsOfClasses(inside);
+        }
+    }
+
     private static void forbiddenWords() throws IOException {
-        String text = Files.readString(Path.of("src/main/java/StoreBufferCores.java"));
+        String text = Files.readString(FILE);
         String[] forbidden = {
             "->", "::", "\\bpackage\\b", "\\bsynchronized\\b", "\\bassert\\b", "\\bfinally\\b",
             "\\btry\\b", "\\bthrow\\b", "\\bimport\\b", "\\bprotected\\b", "\\bstatic \\{",

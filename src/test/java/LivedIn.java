@@ -20,6 +20,21 @@ final class LivedIn {
         return x;
     }
 
+    /** An object in which core 1 has put 100 + a into each word a of memory, and all are dirty. */
+    static StoreBufferCores allDirty(int cores) {
+        StoreBufferCores x = new StoreBufferCores(cores, 8);
+        for (int first = 0; first < 32; first += 8) {
+            for (int i = 0; i < 8; i++) {
+                x.put(1, 2 * i, Codes.SET, 1, 0, 100 + first + i);
+                x.put(1, 2 * i + 1, Codes.STORE, 1, 0, first + i);
+            }
+            x.put(1, 16, Codes.BRANCH, 1, 0, 0);
+            x.run(1, 17);
+            x.settle(1);
+        }
+        return x;
+    }
+
     /** Leaves a word in storage, one in memory alone, and a lazy flush, a store and ORDER pending. */
     private static void fillMemoryAndBuffer(StoreBufferCores x, int core) {
         Codes.load(x, core,

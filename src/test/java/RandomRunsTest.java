@@ -3,7 +3,10 @@ import java.util.Random;
 /** All promises at once: random calls, the same at every run of the test, compared with the model. */
 final class RandomRunsTest {
     private static final int OBJECTS = 4000;
-    private static final int CALLS = 320;
+    // So many calls has an object in its life; lookEverywhere has some of them for each core.
+    private static final int CALLS = 512;
+    private static final int LAST_LOOKS = 73;
+    private static final int LAST_LOOKS_OF_CORE = 14;
     private static final int[] WILD = {
         -1, 4, 8, 9, 20, 21, 24, 31, 32, 33, Integer.MAX_VALUE, Integer.MIN_VALUE};
 
@@ -37,14 +40,15 @@ final class RandomRunsTest {
         for (int i = 0; i < 30; i++) {
             putSomething();
         }
-        for (int i = 30; i < CALLS; i++) {
+        int lastLooks = LAST_LOOKS + LAST_LOOKS_OF_CORE * model.cores();
+        for (int i = 30; i < CALLS - lastLooks; i++) {
             if (random.nextInt(3) == 0) {
                 lookSomewhere();
             } else {
                 changeSomething();
             }
         }
-        // Each turn above is one call at most: with these looks an object stays under 512.
+        // Each turn above is one call, so that with these looks an object has all its calls.
         lookEverywhere();
     }
 
@@ -72,26 +76,27 @@ final class RandomRunsTest {
         int core = core();
         int n = number(21);
         int k = number(8);
-        switch (random.nextInt(16)) {
-            case 0 -> putSomething();
-            case 1 -> check.due(name + "recovery(" + core + ", " + n + ")",
+        // The numbers weigh the calls: a crash or a settle is seldom, a step or a drain is common.
+        switch (random.nextInt(32)) {
+            case 0, 1 -> putSomething();
+            case 2, 3 -> check.due(name + "recovery(" + core + ", " + n + ")",
                 real.recovery(core, n), model.recovery(core, n));
-            case 2, 3, 4, 5 -> check.due(name + "step(" + core + ")", real.step(core), model.step(core));
-            case 6, 7 -> check.due(name + "run(" + core + ", " + n + ")",
+            case 4, 5, 6, 7, 8, 9, 10, 11 -> check.due(name + "step(" + core + ")",
+                real.step(core), model.step(core));
+            case 12, 13, 14, 15 -> check.due(name + "run(" + core + ", " + n + ")",
                 real.run(core, n), model.run(core, n));
-            case 8 -> check.due(name + "settle(" + core + ")", real.settle(core), model.settle(core));
-            case 9 -> check.due(name + "evict(" + k + ")", real.evict(k), model.evict(k));
-            case 10 -> crashSeldom();
+            case 16, 17 -> check.due(name + "settle(" + core + ")",
+                real.settle(core), model.settle(core));
+            case 18, 19 -> check.due(name + "evict(" + k + ")", real.evict(k), model.evict(k));
+            case 20 -> bothCrash();
             default -> check.due(name + "drain(" + core + ", " + k + ")",
                 real.drain(core, k), model.drain(core, k));
         }
     }
 
-    private void crashSeldom() {
-        if (random.nextInt(2) == 0) {
-            real.crash();
-            model.crash();
-        }
+    private void bothCrash() {
+        real.crash();
+        model.crash();
     }
 
     private void lookSomewhere() {

@@ -1,11 +1,13 @@
+import java.util.HashMap;
+import java.util.Map;
 import java.util.function.Function;
 import java.util.function.Supplier;
 import java.util.function.ToIntFunction;
 
 /**
- * Whether a call leaves everything as it was: two objects are made alike, one of them has the call,
- * and then both are looked at everywhere. Only two objects can show it, since to look at a program
- * is to run it, and since one object has no more than 512 calls.
+ * What a call changes, and that it changes nothing else: two objects are made alike, one of them has
+ * the call, and then both are looked at everywhere. Only two objects can show it, since to look at
+ * a program is to run it, and since one object has no more than 512 calls.
  */
 final class Twins {
     private final Check check;
@@ -13,6 +15,7 @@ final class Twins {
     private final StoreBufferCores touched;
     private final StoreBufferCores untouched;
     private final int cores;
+    private final Map<String, Integer> changes = new HashMap<>();
 
     private Twins(Check check, String call, StoreBufferCores touched, StoreBufferCores untouched) {
         this.check = check;
@@ -25,17 +28,30 @@ final class Twins {
     /** The call answers as is due, and nothing has changed by it. */
     static void unchanged(Check check, String call, Supplier<StoreBufferCores> making,
             Function<StoreBufferCores, Object> calling, Object due) {
+        changed(check, call, making, calling, due);
+    }
+
+    /** The call answers as is due, and just these looks have changed by it, each 'look = answer'. */
+    static void changed(Check check, String call, Supplier<StoreBufferCores> making,
+            Function<StoreBufferCores, Object> calling, Object due, String... changes) {
         Twins twins = new Twins(check, call, making.get(), making.get());
+        for (String change : changes) {
+            String[] sides = change.split(" = ");
+            twins.changes.put(sides[0], Integer.valueOf(sides[1]));
+        }
         check.due(call, calling.apply(twins.touched), due);
         twins.lookAtMemory();
         twins.lookAtCores();
         twins.lookAtRecovery();
         twins.lookAtPrograms();
+        check.due("changes that no look showed", twins.changes.keySet().toString(), "[]");
     }
 
     private void look(String where, ToIntFunction<StoreBufferCores> looking) {
+        int before = looking.applyAsInt(untouched);
+        Integer change = changes.remove(where);
         check.due(where + " after " + call,
-            looking.applyAsInt(touched), looking.applyAsInt(untouched));
+            looking.applyAsInt(touched), change == null ? before : change.intValue());
     }
 
     private void lookAtMemory() {
@@ -55,21 +71,21 @@ final class Twins {
         for (int i = 0; i < cores; i++) {
             int core = i;
             look("place(" + core + ")", x -> x.place(core));
-            lookAtRegisters(core);
+            lookAtRegisters(core, "");
             lookAtBuffer(core);
         }
     }
 
-    private void lookAtRegisters(int core) {
+    private void lookAtRegisters(int core, String when) {
         for (int i = 0; i < 4; i++) {
             int k = i;
-            look("register(" + core + ", " + k + ")", x -> x.register(core, k));
+            look("register(" + core + ", " + k + ")" + when, x -> x.register(core, k));
         }
     }
 
     private void lookAtBuffer(int core) {
         look("pending(" + core + ")", x -> x.pending(core));
-        int pending = untouched.pending(core);
+        int pending = Math.max(touched.pending(core), untouched.pending(core));
         for (int i = 0; i < 3 * pending; i++) {
             int k = i / 3;
             int what = i % 3;
@@ -95,10 +111,11 @@ final class Twins {
     private void lookAtPrograms() {
         for (int i = 0; i < cores; i++) {
             int core = i;
-            for (int four = 0; four < 6; four++) {
-                look("run(" + core + ", 4) from its place 0 on", x -> x.run(core, 4));
-                look("place(" + core + ") with that run", x -> x.place(core));
-                lookAtRegisters(core);
+            for (int from = 0; from < 24; from += 4) {
+                String when = " with the run from " + from;
+                look("run(" + core + ", 4)" + when, x -> x.run(core, 4));
+                look("place(" + core + ")" + when, x -> x.place(core));
+                lookAtRegisters(core, when);
             }
             lookAtBuffer(core);
         }
